@@ -25,12 +25,18 @@ public final class SlateHands {
     private static final int ACTS = 20;
     private static final int CARRIES = CARRIES_TOLD + ACTS;
     private static final int IMAGES = 3;
+    private static final int MOST_HIGH = 20;
     private static final int MOST_STRONG = 99;
-    private static final int MOST_NEEDED = 999;
+    private static final int MOST_HEAVY = 30;
+    private static final int MOST_ODDS = 10;
     private static final int MOST_SEED = 2_000_000_000;
     private static final int MOST_LUCK = 20;
     private static final int MOST_RAIN_DAYS = 8;
     private static final int FOR_SHUTTING = 2;
+    // Pairs of choices of two HOUSES, a bit each.
+    private static final int FIRST_SHUTS = 1;
+    private static final int OTHER_SHUTS = 2;
+    private static final int PAIRS = 4;
     private static final int[] FACTORIALS = {1, 1, 2, 6, 24, 120};
 
     private final Tape tape = new Tape();
@@ -45,6 +51,8 @@ public final class SlateHands {
     private final Alone alone = new Alone();
     private final Weather weather = new Weather();
     private final Seen seen = new Seen();
+    private final int[] gains = new int[PAIRS];
+    private final int[] otherGains = new int[PAIRS];
 
     public SlateHands() {
     }
@@ -488,14 +496,15 @@ public final class SlateHands {
         if (!isGame(slate, house, other)) {
             return NO_SUCH;
         }
+        for (int pair = 0; pair < PAIRS; pair++) {
+            shutBy(house, pair & FIRST_SHUTS, other, pair & OTHER_SHUTS);
+            put(gains, pair, gainOf(slate, house));
+            put(otherGains, pair, gainOf(slate, other));
+        }
         int pairs = 0;
-        for (int pair = 0; pair < 4; pair++) {
-            int shuts = pair & 1;
-            int otherShuts = pair >> 1;
-            boolean firstStays = gain(slate, house, other, shuts, otherShuts)
-                    >= gain(slate, house, other, 1 - shuts, otherShuts);
-            boolean otherStays = gain(slate, other, house, otherShuts, shuts)
-                    >= gain(slate, other, house, 1 - otherShuts, shuts);
+        for (int pair = 0; pair < PAIRS; pair++) {
+            boolean firstStays = cell(gains, pair) >= cell(gains, pair ^ FIRST_SHUTS);
+            boolean otherStays = cell(otherGains, pair) >= cell(otherGains, pair ^ OTHER_SHUTS);
             if (firstStays && otherStays) {
                 pairs |= 1 << pair;
             }
@@ -507,7 +516,8 @@ public final class SlateHands {
         if (!isGame(slate, house, other) || !isChoice(shuts) || !isChoice(otherShuts)) {
             return NO_GAME;
         }
-        return gain(slate, house, other, shuts, otherShuts);
+        shutBy(house, shuts, other, otherShuts);
+        return gainOf(slate, house);
     }
 
     // ---- rain ----
@@ -730,6 +740,7 @@ public final class SlateHands {
     private void makeStale() {
         now.fresh = false;
         weather.fresh = false;
+        alone.forget();
     }
 
     private Diary today() {
@@ -773,12 +784,15 @@ public final class SlateHands {
         return whatIf.hearersOn(port, slate, port.days);
     }
 
-    private int gain(int slate, int house, int otherHouse, int shuts, int otherShuts) {
+    private void shutBy(int house, int shuts, int otherHouse, int otherShuts) {
         whatIf.course.setAsTold(port);
-        whatIf.course.shut = shuts << house | otherShuts << otherHouse;
-        whatIf.fill(port);
-        int words = Integer.bitCount(whatIf.knownOn(house, slate, port.days));
-        return words + (shuts == 1 ? FOR_SHUTTING : 0);
+        whatIf.course.shut = (shuts == 0 ? 0 : 1 << house) | (otherShuts == 0 ? 0 : 1 << otherHouse);
+        whatIf.course.runThrough(port);
+    }
+
+    private int gainOf(int slate, int house) {
+        int words = Integer.bitCount(whatIf.course.knownBy(house, slate));
+        return words + (hasBit(whatIf.course.shut, house) ? FOR_SHUTTING : 0);
     }
 
     private int housesOfCart(int set) {
@@ -815,16 +829,12 @@ public final class SlateHands {
             told = from.told;
             size = from.size;
             acts = from.acts;
-            for (int i = 0; i < CARRIES; i++) {
-                put(carrier, i, cell(from.carrier, i));
-                put(slate, i, cell(from.slate, i));
-                put(house, i, cell(from.house, i));
-                put(day, i, cell(from.day, i));
-            }
-            for (int i = 0; i < ACTS; i++) {
-                put(actSlate, i, cell(from.actSlate, i));
-                put(actWord, i, cell(from.actWord, i));
-            }
+            System.arraycopy(from.carrier, 0, carrier, 0, CARRIES);
+            System.arraycopy(from.slate, 0, slate, 0, CARRIES);
+            System.arraycopy(from.house, 0, house, 0, CARRIES);
+            System.arraycopy(from.day, 0, day, 0, CARRIES);
+            System.arraycopy(from.actSlate, 0, actSlate, 0, ACTS);
+            System.arraycopy(from.actWord, 0, actWord, 0, ACTS);
         }
 
         void add(int byCarrier, int ofSlate, int toHouse, int onDay) {
@@ -962,6 +972,15 @@ public final class SlateHands {
 
         boolean isCart(int set) {
             return set > 0 && set <= allCarriers();
+        }
+
+        int busyDays() {
+            int busy = 0;
+            for (int i = 0; i < carries.size; i++) {
+                int day = cell(carries.day, i);
+                busy |= isDayAhead(day) ? 1 << day : 0;
+            }
+            return busy;
         }
 
         int allCarriers() {
@@ -1169,14 +1188,14 @@ public final class SlateHands {
                 port.law = readAmount(tape, "law", 0, LAWS - 1);
             }
             if (fault == 0) {
-                port.odds = readAmount(tape, "odds", 0, 10);
+                port.odds = readAmount(tape, "odds", 0, MOST_ODDS);
             }
             return fault == 0;
         }
 
         private boolean readHouse(Tape tape, Port port) {
             tape.next();
-            put(port.high, port.houses, readAmount(tape, "high", 0, 20));
+            put(port.high, port.houses, readAmount(tape, "high", 0, MOST_HIGH));
             port.houses++;
             return fault == 0;
         }
@@ -1217,7 +1236,7 @@ public final class SlateHands {
                 if (!hasRoom(tape, words, WORDS)) {
                     return false;
                 }
-                put(port.heavy, slate * WORDS + words, readAmount(tape, "word", 1, 30));
+                put(port.heavy, slate * WORDS + words, readAmount(tape, "word", 1, MOST_HEAVY));
                 words++;
             }
             put(port.words, slate, words);
@@ -1546,21 +1565,48 @@ public final class SlateHands {
         // Of a state: the HOUSE in the lowest bits, where it has been, the DAYS above.
         private static final int SET_SHIFT = 3;
         private static final int DAYS_SHIFT = SET_SHIFT + HOUSES;
+        private static final int STATES = SETS * HOUSES;
+        // Each state but the first is awaited by a WAY, there or back, from one of before; and
+        // where it lies at first is in half of the sets alone.
+        private static final int MOST_AWAITED = SETS / 2 * WAYS * 2 + 1;
+        private static final int LOADS = WORDS * MOST_HEAVY + MOST_HIGH + 1;
 
         final int[] soonest = new int[HOUSES];
         final int[] mostWords = new int[HOUSES];
         final int[] needed = new int[HOUSES];
         private final int[] mostHouses = new int[TOLD_DAYS];
-        private final int[] doors = new int[HOUSES];
         private final int[] weights = new int[HOUSES + 1];
         private final int[] words = new int[HOUSES + 1];
+        private final int[] doors = new int[HOUSES];
         private final int[] seenAt = new int[SETS];
-        private final int[] queue = new int[SETS * HOUSES];
+        private final int[] queue = new int[STATES];
         private int queued;
-        private int leastRefused;
+        // By strength, the first awaited that it takes no less to come to, and those behind it.
+        private final int[] firstAwaited = new int[LOADS];
+        private final int[] nextAwaited = new int[MOST_AWAITED];
+        private final int[] awaited = new int[MOST_AWAITED];
+        private int awaitedInAll;
+        private int searchedSlate = NONE;
+        private int searchedStrong = NONE;
+        private int neededSlate = NONE;
+
+        /** What was found holds until the PORT, or what was done to it, is another. */
+        void forget() {
+            searchedSlate = NONE;
+            neededSlate = NONE;
+        }
 
         void search(Port port, int slate, int strong) {
+            if (searchedSlate == slate && searchedStrong == strong) {
+                return;
+            }
+            searchedSlate = slate;
+            searchedStrong = strong;
             prepare(port, slate);
+            Arrays.fill(soonest, NONE);
+            Arrays.fill(mostWords, NONE);
+            Arrays.fill(mostHouses, 0);
+            queued = 0;
             int first = cell(port.slateHouse, slate);
             put(soonest, first, 0);
             put(mostWords, first, cell(words, 1));
@@ -1570,19 +1616,24 @@ public final class SlateHands {
             }
         }
 
-        /** The least strength for each HOUSE: raised to the least LOAD refused, while one is. */
+        /** The least strength for each HOUSE: states are settled by what they take, the least first. */
         void findNeeds(Port port, int slate) {
+            if (neededSlate == slate) {
+                return;
+            }
+            neededSlate = slate;
+            prepare(port, slate);
             Arrays.fill(needed, NONE);
-            int strong = 0;
-            // No LOAD is refused twice, and none is above the bound.
-            for (int i = 0; i <= MOST_NEEDED && strong <= MOST_NEEDED; i++) {
-                search(port, slate, strong);
-                for (int h = 0; h < port.houses; h++) {
-                    if (cell(soonest, h) != NONE && cell(needed, h) == NONE) {
-                        put(needed, h, strong);
-                    }
+            Arrays.fill(firstAwaited, NONE);
+            awaitedInAll = 0;
+            int first = cell(port.slateHouse, slate);
+            await(first | 1 << first << SET_SHIFT, 0);
+            for (int strong = 0; strong < LOADS; strong++) {
+                for (int i = 0; i < MOST_AWAITED && cell(firstAwaited, strong) != NONE; i++) {
+                    int latest = cell(firstAwaited, strong);
+                    put(firstAwaited, strong, cell(nextAwaited, latest));
+                    settle(port, cell(awaited, latest), strong);
                 }
-                strong = leastRefused;
             }
         }
 
@@ -1608,23 +1659,19 @@ public final class SlateHands {
 
         int mostHearers(Port port, int slate, int days) {
             int atFirst = Integer.bitCount(port.leftAtFirst(slate));
+            if (atFirst == 0) {
+                return 0;
+            }
             int houses = 1;
             for (int n = 0; n <= days; n++) {
                 houses = Math.max(houses, cell(mostHouses, n));
             }
-            if (atFirst == 0) {
-                return 0;
-            }
+            // Each HOUSE but the first rubs out a WORD by such a LAW; behind the last they hear none.
             return port.law == 0 ? houses : Math.min(houses, atFirst + 1);
         }
 
         private void prepare(Port port, int slate) {
-            Arrays.fill(soonest, NONE);
-            Arrays.fill(mostWords, NONE);
-            Arrays.fill(mostHouses, 0);
             Arrays.fill(seenAt, 0);
-            queued = 0;
-            leastRefused = MOST_NEEDED + 1;
             int left = port.leftAtFirst(slate);
             for (int been = 1; been <= HOUSES; been++) {
                 put(weights, been, port.weightOf(slate, left));
@@ -1636,28 +1683,31 @@ public final class SlateHands {
             }
         }
 
+        private boolean isNew(int house, int set) {
+            int there = cell(seenAt, set);
+            put(seenAt, set, there | 1 << house);
+            return !hasBit(there, house);
+        }
+
         private void enter(int house, int set, int days) {
-            if (hasBit(cell(seenAt, set), house) || queued >= queue.length) {
+            if (!isNew(house, set) || queued >= queue.length) {
                 return;
             }
-            put(seenAt, set, cell(seenAt, set) | 1 << house);
             put(queue, queued, house | set << SET_SHIFT | days << DAYS_SHIFT);
             queued++;
-            put(mostHouses, days, Math.max(cell(mostHouses, days), Integer.bitCount(set)));
+            if (days < TOLD_DAYS) {
+                put(mostHouses, days, Math.max(cell(mostHouses, days), Integer.bitCount(set)));
+            }
         }
 
         private void leave(Port port, int state, int strong) {
-            int house = state & HOUSES - 1;
-            int set = state >> SET_SHIFT & SETS - 1;
+            int house = houseOf(state);
+            int set = setOf(state);
             int days = (state >> DAYS_SHIFT) + 1;
             int been = Integer.bitCount(set);
             for (int to = 0; to < port.houses; to++) {
-                if (!hasBit(cell(doors, house), to)) {
-                    continue;
-                }
-                int weighs = cell(weights, been) + port.climbTo(house, to);
-                if (weighs > strong) {
-                    leastRefused = Math.min(leastRefused, weighs);
+                boolean isDoor = hasBit(cell(doors, house), to);
+                if (!isDoor || cell(weights, been) + port.climbTo(house, to) > strong) {
                     continue;
                 }
                 if (cell(soonest, to) == NONE) {
@@ -1668,6 +1718,43 @@ public final class SlateHands {
                 }
                 enter(to, set | 1 << to, days);
             }
+        }
+
+        private void await(int state, int strong) {
+            int first = cell(firstAwaited, strong);
+            if (awaitedInAll >= MOST_AWAITED) {
+                return;
+            }
+            put(awaited, awaitedInAll, state);
+            put(nextAwaited, awaitedInAll, first);
+            put(firstAwaited, strong, awaitedInAll);
+            awaitedInAll++;
+        }
+
+        private void settle(Port port, int state, int strong) {
+            int house = houseOf(state);
+            int set = setOf(state);
+            if (!isNew(house, set)) {
+                return;
+            }
+            if (cell(needed, house) == NONE) {
+                put(needed, house, strong);
+            }
+            int weighs = cell(weights, Integer.bitCount(set));
+            for (int to = 0; to < port.houses; to++) {
+                if (hasBit(cell(doors, house), to)) {
+                    int takes = Math.max(strong, weighs + port.climbTo(house, to));
+                    await(to | (set | 1 << to) << SET_SHIFT, takes);
+                }
+            }
+        }
+
+        private static int houseOf(int state) {
+            return state & HOUSES - 1;
+        }
+
+        private static int setOf(int state) {
+            return state >> SET_SHIFT & SETS - 1;
         }
     }
 
@@ -1685,16 +1772,22 @@ public final class SlateHands {
             fresh = true;
             Arrays.fill(known, 0L);
             Arrays.fill(words, 0L);
-            whole = power(10, port.days);
-            for (int rain = 0; rain < 1 << MOST_RAIN_DAYS && rain < 1 << port.days; rain++) {
+            // RAIN on a DAY without CARRIES rubs nothing out, so it need not be told apart.
+            int busy = port.busyDays();
+            int days = Math.min(MOST_RAIN_DAYS, Integer.bitCount(busy));
+            whole = power(MOST_ODDS, days);
+            int rain = 0;
+            for (int i = 0; i < 1 << days; i++) {
                 int wet = Integer.bitCount(rain);
-                long likely = power(port.odds, wet) * power(10 - port.odds, port.days - wet);
+                long likely = power(port.odds, wet) * power(MOST_ODDS - port.odds, days - wet);
                 if (likely > 0) {
                     course.setAsTold(port);
                     course.rain = rain;
                     course.runThrough(port);
                     addUp(port, course, likely);
                 }
+                // The next set of busy DAYS, as counting goes through their bits alone.
+                rain = rain - busy & busy;
             }
         }
 
