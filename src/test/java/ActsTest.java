@@ -175,6 +175,15 @@ public final class ActsTest {
         CHECK.due("back(1) once more", hands.back(1), 0);
         CHECK.due("as the IMAGE has it still", hands.count(8), 2);
         hands.anew();
+        hands.carry(0, 0, 0, 1);
+        hands.rub(1, 0);
+        hands.back(1);
+        CHECK.due("left, as by its own acts", hands.left(0, 0), 5);
+        CHECK.due("of the other SLATE", hands.left(1, 0), 1);
+        CHECK.due("undo the carry of it", hands.undo(), 1);
+        CHECK.due("gone is the carry", hands.why(2), -2);
+        CHECK.due("and not the rub", hands.left(0, 0), 5);
+        hands.anew();
         hands.image(1);
         hands.rub(0, 1);
         hands.back(1);

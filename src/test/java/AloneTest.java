@@ -43,6 +43,7 @@ public final class AloneTest {
                 + "way 0 1;way 0 2;way 0 3;carrier at 0 strong 16;slate at 0 word 5 word 1 word 4 word 3;");
         CHECK.due("brings, made lighter in one HOUSE ahead", lighter.brings(0, 0, 3), 5);
         CHECK.due("saves then", lighter.saves(0, 0, 3), 2);
+        CHECK.due("needs for it", lighter.needs(0, 3), 13);
     }
 
     private static void promise32() {
@@ -65,6 +66,7 @@ public final class AloneTest {
         CHECK.due("can(0, 0)", HANDS.can(0, 0), 1);
         CHECK.due("can(1, 0)", HANDS.can(1, 0), 15);
         CHECK.due("can(2, 0)", HANDS.can(2, 0), 1);
+        CHECK.due("can, from another HOUSE", Ports.of(TEXT.replace("slate at 0", "slate at 1")).can(2, 0), 2);
         CHECK.due("can(3, 0)", HANDS.can(3, 0), -2);
         CHECK.due("can(0, 1)", HANDS.can(0, 1), -2);
         CHECK.due("can(-1, 0)", HANDS.can(-1, 0), -2);
@@ -135,6 +137,11 @@ public final class AloneTest {
         CHECK.due("cart(1, 0, 1): 12", HANDS.cart(1, 0, 1), SlateHands.NONE);
         CHECK.due("cart(5, 0, 3): 16", HANDS.cart(5, 0, 3), 3);
         CHECK.due("cart(6, 0, 3): 19", HANDS.cart(6, 0, 3), 1);
+        SlateHands weaker = Ports.of(TEXT);
+        weaker.rate(1, 14);
+        CHECK.due("cart(6, 0, 3): 18", weaker.cart(6, 0, 3), 3);
+        weaker.rate(1, 10);
+        CHECK.due("cart(6, 0, 1): 14", weaker.cart(6, 0, 1), SlateHands.NONE);
         CHECK.due("cart(7, 0, 4)", HANDS.cart(7, 0, 4), SlateHands.NONE);
         CHECK.due("cart(1, 0, 0)", HANDS.cart(1, 0, 0), 0);
         CHECK.due("cart(0, 0, 0)", HANDS.cart(0, 0, 0), -2);

@@ -38,6 +38,8 @@ public final class DaysTest {
         promise47();
         oneByOne();
         byLaw();
+        allHouses();
+        smallerBehindLarger();
         none();
         CHECK.finish();
     }
@@ -105,6 +107,10 @@ public final class DaysTest {
         SlateHands late = Ports.of("port days 1 law 0 odds 0;house high 0;house high 0;way 0 1;"
                 + "carrier at 0 strong 9;slate at 0 word 9;carry 0 0 to 1 at 0;");
         CHECK.due("when, on the last DAY", late.when(1, 0), 1);
+        CHECK.due("dones, the first CARRY", late.dones(), 1);
+        CHECK.due("toil, the first CARRY", late.toil(0), 9);
+        CHECK.due("moves, the first CARRY", late.moves(0), 1);
+        CHECK.due("trips, the first CARRY", late.trips(0), 1);
     }
 
     private static void promises20to23() {
@@ -238,6 +244,39 @@ public final class DaysTest {
             CHECK.due("LAW " + law + ": what 1 knows ahead of rubbing", hands.knows(1, 0, 4), 31);
             CHECK.due("LAW " + law + ": what 2 knows", hands.knows(2, 0, 4), Integer.parseInt(due[0]));
         }
+    }
+
+    /** What the next SLATE's first HOUSE knows is not known by a ninth one. */
+    private static void allHouses() {
+        SlateHands hands = Ports.of("port days 1 law 0 odds 5;" + "house high 0;".repeat(8) + "way 6 7;"
+                + "carrier at 7 strong 9;slate at 7 word 1;slate at 0 word 1;carry 0 0 to 6 at 0;");
+        CHECK.due("heard(0, 1)", hands.heard(0, 1), 0b11000000);
+        CHECK.due("full(0, 1)", hands.full(0, 1), 0b11000000);
+        CHECK.due("heard(1, 1)", hands.heard(1, 1), 1);
+        CHECK.due("beside(0)", hands.beside(0), 6);
+        CHECK.due("beside(1)", hands.beside(1), SlateHands.NONE);
+        CHECK.due("can(0, 0)", hands.can(0, 0), 0b11000000);
+        CHECK.due("chance(0, 6, 0)", hands.chance(0, 6, 0), 1);
+        CHECK.due("chance(0, 6, 1)", hands.chance(0, 6, 1), 2);
+        CHECK.due("chance(1, 0, 1)", hands.chance(1, 0, 1), 1);
+    }
+
+    private static void smallerBehindLarger() {
+        SlateHands hands = Ports.of("port days 3 law 0 odds 0;" + "house high 0;".repeat(8) + "way 0 7;way 1 2;"
+                + "carrier at 0 strong 9;carrier at 0 strong 9;slate at 0 word 1 word 1;slate at 0 word 1;"
+                + "carry 0 0 to 7 at 0;carry 1 1 to 7 at 0;");
+        CHECK.due("WORDS of two", hands.drawn(0, 1), 3);
+        hands.needs(0, 7);
+        hands.brings(0, 0, 7);
+        Ports.told(hands, "port days 1 law 0 odds 0;house high 9;house high 0;house high 9;way 0 1;"
+                + "carrier at 1 strong 9;slate at 1 word 1;");
+        CHECK.due("WORDS of one", hands.drawn(0, 1), 1);
+        CHECK.due("climb", hands.climb(1, 2), SlateHands.NONE);
+        CHECK.due("far", hands.far(1, 2), SlateHands.NONE);
+        CHECK.due("can", hands.can(0, 0), 2);
+        CHECK.due("needs", hands.needs(0, 0), 10);
+        CHECK.due("knows", hands.knows(0, 0, 1), 0);
+        CHECK.due("dones", hands.dones(), 0);
     }
 
     private static void none() {

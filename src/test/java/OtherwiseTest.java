@@ -78,6 +78,7 @@ public final class OtherwiseTest {
             CHECK.due("weak: by(0, " + law + ")", weak.by(0, law), weakBy[law]);
         }
         CHECK.due("weak: law(0)", weak.law(0), 2);
+        CHECK.due("law, the least of several", Ports.of(TEXT.substring(0, TEXT.indexOf("carry"))).law(0), 0);
     }
 
     private static void promise43() {
@@ -97,6 +98,9 @@ public final class OtherwiseTest {
     }
 
     private static void promises44and45() {
+        SlateHands unasked = Ports.of(TEXT);
+        Ports.row(unasked, 2, 2, 0, 0);
+        CHECK.due("leaves, asked first", unasked.leaves(0, 0), 1);
         Ports.row(HANDS);
         CHECK.due("ask: four", HANDS.ask(0, 0), 0);
         CHECK.due("leaves: four", HANDS.leaves(0, 0), 1);
@@ -137,8 +141,13 @@ public final class OtherwiseTest {
         rowDue(hands, 1, 0, -2, "not two each");
         Ports.row(hands, 3, 3, 4, 0);
         rowDue(hands, 0, 0, -2, "no such DAY");
+        Ports.row(hands, 0, 0, 0, 0);
         Ports.row(hands, -1, 0);
         rowDue(hands, 0, 0, -2, "no such DAY");
+        Ports.row(hands, 3, 3, 0, 4);
+        Ports.row(hands, 3, 3);
+        rowDue(hands, 0, 9, -2, "no such SLATE");
+        CHECK.due("a shorter row than it was", hands.firsts(0, 0), 9);
         Ports.row(hands, 3, 4);
         rowDue(hands, 0, 0, -2, "no such HOUSE");
         Ports.row(hands, 3, -1);
@@ -190,6 +199,8 @@ public final class OtherwiseTest {
         CHECK.due("gets(0, 1, 2, 2, 0)", HANDS.gets(0, 1, 2, 2, 0), -1000);
         CHECK.due("gets(0, 1, 2, 0, -1)", HANDS.gets(0, 1, 2, 0, -1), -1000);
         CHECK.due("as told still", HANDS.why(0), 0);
+        HANDS.by(0, 0);
+        CHECK.due("by the LAW told", HANDS.gets(0, 3, 0, 0, 0), 0);
         SlateHands away = Ports.of("port days 2 law 0 odds 0;house high 0;house high 0;house high 0;way 0 1;way 0 2;"
                 + "carrier at 1 strong 9;slate at 1 word 1;carry 0 0 to 0 at 0;carry 0 0 to 2 at 1;");
         CHECK.due("carried away from a HOUSE that shuts", away.gets(0, 2, 1, 0, 1), 1);

@@ -108,7 +108,13 @@ public final class TextTest {
         CHECK.due("no LINES", Ports.told(hands, " \n "), 0);
         CHECK.due("there is none then", hands.dones(), -2);
         CHECK.due("no HOUSES then", hands.count(3), 0);
-        CHECK.due("no days then", hands.count(0), 0);
+        for (int what = 0; what <= 9; what++) {
+            CHECK.due("nothing then: count(" + what + ")", hands.count(what), 0);
+        }
+        for (int times = 0; times < 2; times++) {
+            CHECK.due("told again", Ports.told(hands, ALL), 7);
+            CHECK.due("CARRIES of the latest alone", hands.count(7), 1);
+        }
     }
 
     private static void promise5() {
@@ -150,6 +156,12 @@ public final class TextTest {
         fault("a number first", "5", 1, 0);
         fault("a second port", PORT + PORT, 1, 25);
         fault("an unknown word", PORT + "ship high 3;", 1, 25);
+        fault("a word but for its first letter", PORT + "mouse high 3;", 1, 25);
+        fault("a word but for its last letter", PORT + "housa high 3;", 1, 25);
+        fault("a word too long", PORT + "houses high 3;", 1, 25);
+        fault("a word too long by the last letter of all", PORT + "housez high 3;", 1, 25);
+        fault("a word too long by the first letter of all", PORT + "ahouse high 3;", 1, 25);
+        fault("a word too short", PORT + "hous high 3;", 1, 25);
         fault("a ; more", PORT + ";", 1, 25);
         fault("no ;", PORT + "house high 3 house", 1, 38);
         fault("a number more", PORT + "house high 3 3;", 1, 38);
