@@ -1581,7 +1581,7 @@ public final class SlateHands {
         private final int[] seenAt = new int[SETS];
         private final int[] queue = new int[STATES];
         private int queued;
-        // By strength, the first awaited that it takes no less to come to, and those behind it.
+        // By how strong one must be: the latest state awaited, and behind each the one before it.
         private final int[] firstAwaited = new int[LOADS];
         private final int[] nextAwaited = new int[MOST_AWAITED];
         private final int[] awaited = new int[MOST_AWAITED];
@@ -1683,14 +1683,14 @@ public final class SlateHands {
             }
         }
 
-        private boolean isNew(int house, int set) {
+        private boolean markSeen(int house, int set) {
             int there = cell(seenAt, set);
             put(seenAt, set, there | 1 << house);
             return !hasBit(there, house);
         }
 
         private void enter(int house, int set, int days) {
-            if (!isNew(house, set) || queued >= queue.length) {
+            if (!markSeen(house, set) || queued >= queue.length) {
                 return;
             }
             put(queue, queued, house | set << SET_SHIFT | days << DAYS_SHIFT);
@@ -1734,7 +1734,7 @@ public final class SlateHands {
         private void settle(Port port, int state, int strong) {
             int house = houseOf(state);
             int set = setOf(state);
-            if (!isNew(house, set)) {
+            if (!markSeen(house, set)) {
                 return;
             }
             if (cell(needed, house) == NONE) {
