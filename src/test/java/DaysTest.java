@@ -258,7 +258,10 @@ public final class DaysTest {
         CHECK.due("can(0, 0)", hands.can(0, 0), 0b11000000);
         CHECK.due("chance(0, 6, 0)", hands.chance(0, 6, 0), 1);
         CHECK.due("chance(0, 6, 1)", hands.chance(0, 6, 1), 2);
+        CHECK.due("chance(1, 0, 0)", hands.chance(1, 0, 0), 1);
         CHECK.due("chance(1, 0, 1)", hands.chance(1, 0, 1), 1);
+        hands.rate(0, 0);
+        CHECK.due("beside(0), not carried", hands.beside(0), SlateHands.NONE);
     }
 
     private static void smallerBehindLarger() {

@@ -31,7 +31,9 @@ public final class OtherwiseTest {
         CHECK.due("block(0), as another WAY 0 1 stays", HANDS.block(0), 1);
         CHECK.due("block(1)", HANDS.block(1), -2);
         CHECK.due("block(-1)", HANDS.block(-1), -2);
-        CHECK.due("block(0), by LAW 0 too", Ports.of("port days 3 law 0" + REST).block(0), 1);
+        SlateHands kept = Ports.of("port days 3 law 0" + REST.replace(" word 5", ""));
+        CHECK.due("by(0, 1)", kept.by(0, 1), 3);
+        CHECK.due("block(0), by the LAW told", kept.block(0), 1);
         SlateHands single = Ports.of(TEXT.replace("way 0 1;way 1 2;way 0 1;", "way 2 1;way 1 0;"));
         CHECK.due("block(0), without it", single.block(0), 1);
         SlateHands none = Ports.of(TEXT.substring(0, TEXT.indexOf("carry")));

@@ -33,10 +33,10 @@ public final class RowsTest {
         CHECK.due("row(4, 0, -1), asked ahead", hands.row(4, 0, -1), -2);
         CHECK.due("all 0", hands.firsts(0, 0), 1);
         CHECK.due("write(0, 59)", hands.write(0, 59, 5), 0);
-        CHECK.due("write(0, 0)", hands.write(0, 0, 5), 0);
         CHECK.due("row(1, 0, -1)", hands.row(1, 0, -1), -3);
         CHECK.due("no row of it", hands.write(1, 0, 0), -6);
         CHECK.due("the SLOT stays as it was", hands.firsts(0, 0), 0);
+        CHECK.due("write(0, 0)", hands.write(0, 0, 13), 0);
         CHECK.due("in place of another one", hands.row(0, 1, 60), 0);
         CHECK.due("all 0 again", hands.firsts(0, 0), 1);
         CHECK.due("SLOTS still", hands.count(11), 2);
