@@ -134,13 +134,8 @@ public final class ModelTest {
         String text = new PortMaker(random).text();
         story = story.substring(0, story.indexOf(':') + 2) + "<" + text + "> ";
         call("end", 0);
-        for (int i = 0; i < text.length(); i += 20) {
-            long[] numbers = new long[5];
-            for (int j = 0; j < 20; j++) {
-                int sign = i + j < text.length() ? text.charAt(i + j) : ' ';
-                numbers[j / 4] = numbers[j / 4] << 8 | sign;
-            }
-            call("feed", numbers);
+        for (int[] five : Ports.fives(text)) {
+            call("feed", five[0], five[1], five[2], five[3], five[4]);
         }
         call("end", text.length());
         call("port");

@@ -21,8 +21,8 @@ final class Ports {
 
     static void fed(SlateHands hands, String text) {
         int before = hands.count(10);
-        for (int i = 0; i < text.length(); i += 20) {
-            hands.feed(four(text, i), four(text, i + 4), four(text, i + 8), four(text, i + 12), four(text, i + 16));
+        for (int[] five : fives(text)) {
+            hands.feed(five[0], five[1], five[2], five[3], five[4]);
         }
         hands.end(before + text.length());
     }
@@ -35,11 +35,13 @@ final class Ports {
         }
     }
 
-    private static int four(String text, int from) {
-        int number = 0;
-        for (int i = from; i < from + 4; i++) {
-            number = number << 8 | (i < text.length() ? text.charAt(i) & 255 : ' ');
+    /** A text as feed() takes it, with blanks behind its end. */
+    static int[][] fives(String text) {
+        int[][] fives = new int[(text.length() + 19) / 20][5];
+        for (int i = 0; i < 20 * fives.length; i++) {
+            int sign = i < text.length() ? text.charAt(i) & 255 : ' ';
+            fives[i / 20][i / 4 % 5] = fives[i / 20][i / 4 % 5] << 8 | sign;
         }
-        return number;
+        return fives;
     }
 }

@@ -210,8 +210,9 @@ public final class RefusalsTest {
                 Calls.due(CHECK, "no PORT", hands, "count(" + what + ") = 0");
             }
         }
-        Calls.due(CHECK, "new", fresh, "fault(0) = 0", "fault(1) = NONE", "count(11) = 0", "back(0) = -6", "back(1) = -6",
-                "back(2) = -6", "write(0, 0, 0) = -6", "paste(0, 0, 0, 0, 0) = -6", "end(0) = 0", "end(1) = NONE");
+        Calls.due(CHECK, "new", fresh, "fault(0) = 0", "fault(1) = NONE", "count(11) = 0", "back(0) = -6",
+                "back(1) = -6", "back(2) = -6", "write(0, 0, 0) = -6", "paste(0, 0, 0, 0, 0) = -6", "end(0) = 0",
+                "end(1) = NONE");
     }
 
     /** A PORT of its first LINE alone has DAYS, and nothing else. */
@@ -223,7 +224,8 @@ public final class RefusalsTest {
                 refused(hands, parts[0], numbers(parts[2].split(" "), -1, 0), Long.parseLong(parts[3]));
             }
         }
-        Calls.due(CHECK, "port alone", hands, "count(9) = 1", "dones() = 0", "idle(0) = 0", "idle(1) = -2", "gossip() = NONE",
-                "famous() = NONE", "drawn(0, 0) = 1", "drawn(0, 1) = 0", "undo() = -5", "anew() = 0", "back(2) = 0");
+        Calls.due(CHECK, "port alone", hands, "count(9) = 1", "dones() = 0", "idle(0) = 0", "idle(1) = -2",
+                "gossip() = NONE", "famous() = NONE", "drawn(0, 0) = 1", "drawn(0, 1) = 0", "undo() = -5", "anew() = 0",
+                "back(2) = 0");
     }
 }

@@ -68,12 +68,13 @@ public final class TextEdgesTest {
 
     private static void end() {
         SlateHands empty = new SlateHands();
-        due("an empty TAPE", empty, "end(0) = 0", "end(1) = NONE", "end(-1) = NONE", "end(MAX) = NONE", "end(MIN) = NONE",
-                "count(10) = 0");
+        due("an empty TAPE", empty, "end(0) = 0", "end(1) = NONE", "end(-1) = NONE", "end(MAX) = NONE",
+                "end(MIN) = NONE", "count(10) = 0");
         SlateHands full = new SlateHands();
         fill(full, 800);
-        due("a full TAPE", full, "end(801) = NONE", "end(MAX) = NONE", "end(-1) = NONE", "end(MIN) = NONE", "count(10) = 800",
-                "end(800) = 800", "end(799) = 799", "end(800) = NONE", "count(10) = 799", "end(0) = 0", "count(10) = 0");
+        due("a full TAPE", full, "end(801) = NONE", "end(MAX) = NONE", "end(-1) = NONE", "end(MIN) = NONE",
+                "count(10) = 800", "end(800) = 800", "end(799) = 799", "end(800) = NONE", "count(10) = 799",
+                "end(0) = 0", "count(10) = 0");
         SlateHands refused = new SlateHands();
         Ports.fed(refused, PORT);
         due("nothing happens", refused, "end(26) = NONE", "end(-1) = NONE", "port() = 1");
@@ -94,10 +95,10 @@ public final class TextEdgesTest {
         String full = FullPort.of(12);
         SlateHands hands = new SlateHands();
         Ports.fed(hands, full + "\n".repeat(800 - full.length()));
-        due("800 bytes, as many LINES as can be", hands, "count(10) = 800", "port() = 41", "count(9) = 41", "count(10) = 0",
-                "fault(0) = 0", "fault(1) = NONE");
-        due("the TAPE is empty then: no LINES, no PORT", hands, "port() = 0", "count(9) = 0", "dones() = -2", "house(0) = -2",
-                "fault(0) = 0", "fault(1) = NONE");
+        due("800 bytes, as many LINES as can be", hands, "count(10) = 800", "port() = 41", "count(9) = 41",
+                "count(10) = 0", "fault(0) = 0", "fault(1) = NONE");
+        due("the TAPE is empty then: no LINES, no PORT", hands, "port() = 0", "count(9) = 0", "dones() = -2",
+                "house(0) = -2", "fault(0) = 0", "fault(1) = NONE");
         Ports.fed(hands, PORT);
         due("one LINE", hands, "port() = 1", "dones() = 0");
         Ports.fed(hands, PORT + "house");
@@ -114,12 +115,13 @@ public final class TextEdgesTest {
         SlateHands hands = Ports.of(FullPort.ONE_EACH);
         due("ahead of it", hands, "rate(0, 50) = 1", "image(2) = 0", "rub(0, 0) = 1", "carry(0, 0, 0, 0) = 0",
                 "row(3, 1, 2) = 0", "write(3, 1, 1) = 0");
-        for (String text : new String[] {"port", PORT + "port", PORT + "house high 21;", HOUSES8 + "house high 3;", "ports"}) {
+        for (String text : new String[] {"port", PORT + "port", PORT + "house high 21;", HOUSES8 + "house high 3;",
+                "ports"}) {
             Ports.fed(hands, text);
-            due(text, hands, "port() = -4", "count(10) = 0", "count(0) = 1", "count(1) = 0", "count(2) = 0", "count(3) = 2",
-                    "count(4) = 1", "count(5) = 1", "count(6) = 1", "count(7) = 1", "count(8) = 2", "count(9) = 7",
-                    "count(11) = 1", "carrier(0, 1) = 50", "house(0) = 0", "word(0, 0) = 1", "left(0, 0) = 0", "dones() = 1",
-                    "why(1) = 2", "firsts(3, 0) = 2", "back(0) = -6");
+            due(text, hands, "port() = -4", "count(10) = 0", "count(0) = 1", "count(1) = 0", "count(2) = 0",
+                    "count(3) = 2", "count(4) = 1", "count(5) = 1", "count(6) = 1", "count(7) = 1", "count(8) = 2",
+                    "count(9) = 7", "count(11) = 1", "carrier(0, 1) = 50", "house(0) = 0", "word(0, 0) = 1",
+                    "left(0, 0) = 0", "dones() = 1", "why(1) = 2", "firsts(3, 0) = 2", "back(0) = -6");
         }
         due("the IMAGE and acts", hands, "undo() = 1", "undo() = 0", "back(2) = 0", "count(8) = 0", "left(0, 0) = 1");
     }
@@ -128,8 +130,8 @@ public final class TextEdgesTest {
 
     private static void faultPlaces() {
         SlateHands hands = new SlateHands();
-        due("ahead of any", hands, "fault(0) = 0", "fault(1) = NONE", "fault(2) = NONE", "fault(-1) = NONE", "fault(MAX) = NONE",
-                "fault(MIN) = NONE");
+        due("ahead of any", hands, "fault(0) = 0", "fault(1) = NONE", "fault(2) = NONE", "fault(-1) = NONE",
+                "fault(MAX) = NONE", "fault(MIN) = NONE");
         fault("at the first byte", "x" + PORT, 1, 0);
         String full = PORT + " ".repeat(800 - PORT.length());
         fault("at the last byte of a full TAPE", full.substring(0, 799) + "x", 1, 799);
@@ -142,8 +144,8 @@ public final class TextEdgesTest {
         due("of the latest port()", hands, "fault(0) = 2", "fault(1) = 10");
         Ports.told(hands, HOUSES8 + "house");
         due("of the latest port()", hands, "fault(0) = 3", "fault(1) = 129");
-        due("other calls leave it", hands, "end(0) = 0", "feed(0, 0, 0, 0, 0) = 20", "end(0) = 0", "image(0) = 0", "back(0) = 0",
-                "fault(0) = 3", "fault(1) = 129");
+        due("other calls leave it", hands, "end(0) = 0", "feed(0, 0, 0, 0, 0) = 20", "end(0) = 0", "image(0) = 0",
+                "back(0) = 0", "fault(0) = 3", "fault(1) = 129");
         Ports.told(hands, "");
         due("of the latest port(), without", hands, "fault(0) = 0", "fault(1) = NONE");
     }
@@ -209,8 +211,13 @@ public final class TextEdgesTest {
                 fault(name + ", the end", before, 1, before.length());
                 fault(name + ", the end behind blanks", before + " \n", 1, before.length() + 2);
             }
+            if (i > 0 && !token.equals(";")) {
+                fault(name + ", ; for all the rest", before + " ;", 1, before.length() + 1);
+                fault(name + ", ; for all the rest of a LINE", before + " ;house high 3;", 1, before.length() + 1);
+            }
             for (String other : new String[] {"zz", ";", "port", "house", "at", "3", "A", "-"}) {
-                boolean canStand = other.equals(token) || number && other.equals("3") || i == 0 && other.equals("house");
+                boolean canStand = other.equals(token) || number && other.equals("3") || i == 0
+                        && other.equals("house");
                 if (!canStand) {
                     fault(name + ", " + other + " for it", before + " " + other + behind, 1, before.length() + 1);
                 }
@@ -270,10 +277,11 @@ public final class TextEdgesTest {
             }
         }
         BigInteger within = BigInteger.valueOf(least);
-        String[] beyond = {String.valueOf(most + 1), String.valueOf(most + 10), String.valueOf(10 * most + 10), "999", "1000", "1001",
-            within.add(BigInteger.ONE.shiftLeft(8)).toString(), within.add(BigInteger.ONE.shiftLeft(16)).toString(),
-            "2147483647", "2147483648", within.add(BigInteger.ONE.shiftLeft(32)).toString(), "9223372036854775808",
-            within.add(BigInteger.ONE.shiftLeft(64)).toString(), "9".repeat(60), "1" + "0".repeat(60)};
+        String[] beyond = {String.valueOf(most + 1), String.valueOf(most + 10), String.valueOf(10 * most + 10), "999",
+                "1000", "1001", within.add(BigInteger.ONE.shiftLeft(8)).toString(),
+                within.add(BigInteger.ONE.shiftLeft(16)).toString(), "2147483647", "2147483648",
+                within.add(BigInteger.ONE.shiftLeft(32)).toString(), "9223372036854775808",
+                within.add(BigInteger.ONE.shiftLeft(64)).toString(), "9".repeat(60), "1" + "0".repeat(60)};
         for (String number : beyond) {
             fault(line + " of " + number, ahead + line.replace("#", number), 2, place);
         }
@@ -284,16 +292,16 @@ public final class TextEdgesTest {
 
     private static void toldAhead() {
         SlateHands mixed = Ports.of("port days 2 law 0 odds 0;house high 1;slate at 0 word 4;house high 2;way 1 0;"
-                + "carrier at 0 strong 9;carry 0 0 to 1 at 0;slate at 1 word 5;house high 3;carrier at 2 strong 8;way 2 1;"
-                + "carry 1 1 to 2 at 1;");
+                + "carrier at 0 strong 9;carry 0 0 to 1 at 0;slate at 1 word 5;house high 3;carrier at 2 strong 8;"
+                + "way 2 1;carry 1 1 to 2 at 1;");
         due("numbered as they stand, whatever stands between", mixed, "count(9) = 12", "house(2) = 3", "doors(1) = 5",
                 "carrier(1, 0) = 2", "word(1, 0) = 5", "why(0) = 0", "why(1) = 3", "lies(1, 0) = 1");
         fault("a HOUSE told behind", HOUSES2 + "carrier at 2 strong 3;house high 3;", 2, 62);
         fault("a HOUSE told behind", HOUSES2 + "slate at 2 word 3;house high 3;", 2, 60);
         fault("a CARRIER told behind", HOUSES2 + "slate at 0 word 1;carry 0 0 to 1 at 0;carrier at 0 strong 9;", 2, 75);
         fault("a SLATE told behind", HOUSES2 + "carrier at 0 strong 9;carry 0 0 to 1 at 0;slate at 0 word 1;", 2, 81);
-        fault("a HOUSE told behind", HOUSES2 + "carrier at 0 strong 9;slate at 0 word 1;carry 0 0 to 2 at 0;house high 3;",
-                2, 104);
+        fault("a HOUSE told behind", HOUSES2
+                + "carrier at 0 strong 9;slate at 0 word 1;carry 0 0 to 2 at 0;house high 3;", 2, 104);
     }
 
     private static void ways() {
@@ -336,7 +344,8 @@ public final class TextEdgesTest {
         fault("the end behind six", six, 1, six.length());
         fault("a 6th WORD of 31", six.substring(0, six.length() - 1) + "31 word 3;", 2, six.length() - 1);
         SlateHands hands = Ports.of(HOUSES2 + "slate at 0" + " word 3".repeat(6) + ";slate at 1 word 7;");
-        due("fewer WORDS behind more", hands, "word(1, 0) = 7", "word(1, 1) = NONE", "left(1, 0) = 1", "left(0, 0) = 63");
+        due("fewer WORDS behind more", hands, "word(1, 0) = 7", "word(1, 1) = NONE", "left(1, 0) = 1",
+                "left(0, 0) = 63");
     }
 
     private static void firstByItsPlace() {
